@@ -435,7 +435,7 @@ public final class LandmarkLea {
             return NONE;
         }
 
-        /** Tells whether a hub and a vertex have an estimate up to its rank of at most a limit. */
+        /** Tells if the estimate of a hub and a vertex up to the hub's rank is at most a limit. */
         boolean reaches(int hubRank, int vertex, int limit) {
             int hub = vertexOf(hubRank);
             long common = commonHubs(hub, vertex);
