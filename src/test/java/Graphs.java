@@ -65,4 +65,29 @@ final class Graphs {
         }
         return text.toString();
     }
+
+    /** As many vertices as there may be, built without an edge and then joined to a path: 0 - 1 - .. - 47. */
+    static LandmarkLea grownPath() {
+        LandmarkLea lea = empty(48);
+        lea.build();
+        for (int v = 1; v < 48; v++) {
+            lea.addEdge(v - 1, v);
+        }
+        return lea;
+    }
+
+    /** All that calls tell of an object, but for paths and estimates, which the labels tell. */
+    static String state(LandmarkLea lea) {
+        StringBuilder text = new StringBuilder();
+        text.append(lea.vertices()).append(" vertices, ").append(lea.edges()).append(" edges, ");
+        text.append(lea.entries()).append(" entries, ").append(lea.entriesIfBuilt()).append(" if built, ");
+        text.append(lea.pruned()).append(" pruned, ").append(lea.written()).append(" written");
+        for (int v = 0; v < lea.vertices(); v++) {
+            text.append("; ").append(v).append(" - ").append(lea.neighbours(v));
+            if (lea.isBuilt()) {
+                text.append(", rank ").append(lea.rank(v)).append(", label ").append(label(lea, v));
+            }
+        }
+        return text.append(lea.isBuilt() ? "; built" : "; not built").toString();
+    }
 }
